@@ -63,6 +63,7 @@ public final class HumUnheard {
     private static final int TRACE_KEPT = 20;
 
     private final Shelf[] shelves = new Shelf[SHELVES];
+    /** It makes the town itself, since no constructor here hands on a part of what it makes. */
     private final Seeker seeker = new Seeker();
     private final Town town = seeker.town;
     private final Town kept = new Town();

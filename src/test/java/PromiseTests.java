@@ -61,11 +61,12 @@ public final class PromiseTests {
     fresh("2");
     due(x.row(0, 0, 0), 1); due(x.holds(0), 100);
     due(x.row(7, 3, 60), 1); due(x.holds(7), 103); due(x.set(7, 59, 9), 1);
-    due(x.row(7, 2, 60), 1); due(x.element(7, 59), 0);
+    due(x.set(7, 0, 9), 1); due(x.row(7, 2, 60), 1); due(x.element(7, 59), 0); due(x.element(7, 0), 0);
     due(x.row(-1, 9, -1), -1); due(x.row(8, 0, 1), -1); due(x.row(0, 9, -1), -4); due(x.row(0, -1, 61), -6);
     due(x.row(0, 4, 1), -6); due(x.row(0, 0, 61), -7); due(x.row(0, 0, MAX), -7); due(x.row(0, 0, MIN), -4);
     due(x.holds(0), 100); due(x.holds(7), 102);
     hums(1); x.show(1, 0); due(x.row(1, 1, 2), 1); due(x.holds(1), 101);
+    x.show(7, 0); due(x.element(7, 0), 0); x.show(7, -1); due(x.element(7, 0), 0);
 
     fresh("3");
     for (int sort = 0; sort < 4; sort++) x.row(sort, sort, 2);
@@ -227,7 +228,7 @@ public final class PromiseTests {
     due(planFault("off 0 from 5 to 5 each"), 22); due(planFault("off 0 from 5 to 5 each "), 23); due(planFault("off 0 from 5 to 5 each 0"), 23);
     due(planFault("off 0 from 5 to 5 each 100"), 23); due(planFault("off 0 from 5 to 5 each 99"), -1); due(planFault("off 0 from 5 to 5 each 1"), -1);
     due(planFault("off 0 from 5 to 5 each 1 "), 24); due(planFault("off 0 from 5 to 5 each 1;x"), 25); due(planFault("off 0 from 5 to 5;off 3"), 22);
-    due(planFault("loss 5"), 0); due(lawFault("off 0 from 5 to 5"), 0);
+    due(planFault(";off 0 from 5 to 5"), 0); due(planFault("off 0 from 5 to 5;;on 0 from 5 to 5;x"), 18); due(planFault("loss 5"), 0); due(lawFault("off 0 from 5 to 5"), 0);
   }
 
   private static void plansInForce() {
@@ -241,6 +242,7 @@ public final class PromiseTests {
     for (int h : off) due(x.sounds(0, h), 0);
     due(x.sounds(0, 225), 1); due(x.sounds(0, 237), 1);
     x.off(0, true); due(x.sounds(0, 9), 0); due(x.sounds(0, 15), 1); due(x.sounds(0, 10), 0); x.off(0, false);
+    plan("off 0 from 3 to 3 each 1;on 1 from 3 to 4 each 2"); x.force(2); x.off(1, true); due(x.sounds(0, 2), 1); due(x.sounds(0, 3), 0); due(x.sounds(0, 200), 0); due(x.sounds(1, 200), 1); x.off(1, false);
     x.force(1); due(x.sounds(1, 100), 0); due(x.sounds(0, 4), 1); due(x.sounds(0, 5), 0); due(x.sounds(0, 24), 0); due(x.sounds(0, 28), 1); due(x.sounds(0, 29), 0); due(x.sounds(0, 239), 0);
     x.force(-1); due(x.sounds(1, 100), 1); due(x.sounds(0, 5), 1);
   }
@@ -276,6 +278,7 @@ public final class PromiseTests {
     x.size(10, 8); x.size(15, 8); x.size(14, 7);
     due(x.reach(0, 10), 35); due(x.reach(0, 15), 0); due(x.reach(0, 14), 5); due(x.reach(1, 10), 39); due(x.reach(2, 10), 60); due(x.reach(2, 15), 0);
     due(x.reach(3, 10), 30); due(x.reach(4, 10), 30); due(x.reach(5, 15), 35); due(x.reach(6, 10), 41); due(x.reach(6, 15), 0);
+    laws("loss 29"); due(x.reach(0, 17), 1); due(x.reach(6, 17), 7); x.size(17, 1); due(x.reach(0, 17), 11); due(x.reach(2, 17), 12); x.size(17, 0);
     laws("loss 99;gain 7"); due(x.reach(5, 0), 0); due(x.reach(5, 15), 0); due(x.reach(1, 63), 0); due(x.reach(0, 9), 30);
     x.size(9, 4); due(x.reach(0, 9), 37); due(x.reach(2, 9), 67); due(x.reach(6, 9), 43);
     due(x.reach(7, 0), -1); due(x.reach(-1, 0), -1); due(x.reach(0, 64), -1); due(x.reach(0, -1), -1); due(x.status(11), 0);
@@ -299,7 +302,7 @@ public final class PromiseTests {
     x.person(0, 40, 0, 0, true); due(x.loudest(0, 0), -1);
     x.source(1, 0, 40, 30); x.source(3, 1, 41, 35); x.source(5, 9, 50, 30); due(x.loudest(0, 0), 0);
     x.size(0, 1); due(x.loudest(0, 0), 1); x.off(1, true); due(x.loudest(0, 0), 0); x.off(0, true); due(x.loudest(0, 0), 2); x.off(2, true); due(x.loudest(0, 0), -1);
-    due(x.loudest(1, 0), -1); due(x.loudest(0, 240), -1); due(x.loudest(0, -1), -1);
+    x.source(1, 0, 40, 1); due(x.loudest(0, 0), 3); due(x.loudest(1, 0), -1); due(x.loudest(0, 240), -1); due(x.loudest(0, -1), -1);
   }
 
   private static void telling() {
@@ -478,6 +481,10 @@ public final class PromiseTests {
       due(x.holds(0), 0); due(x.holds(1), -1); due(x.holds(2), 101); due(x.element(2, 0), 77); due(x.fault(), 4); due(x.status(7), 2); due(x.status(11), 1); due(x.status(16), 3);
       x.show(1, 0); due(x.source(7, 0, 42, 9), 1); due(x.source(1, 3, 43, 9), 2); due(x.sounds(1, 9), 1); x.show(1, 2); due(x.pass(1), 10);
     }
+    // What is made anew after restore() has nothing of what was there.
+    fresh("49");
+    people(1); x.image(); x.source(1, 0, 40, 9); x.hours(0, 4, 5); x.cost(0, 6); x.off(0, true); plan("off 0 from 7 to 8"); x.force(0); x.restore(); due(x.status(5), 0); due(x.force(0), -11);
+    x.source(1, 0, 40, 9); due(x.cost(0, 0), 0); due(x.sounds(0, 7), 1); due(x.off(0, false), 0); due(x.hours(0, 0, 0), 23);
     // What came after THE IMAGE is gone, also from what beats with what.
     fresh("49");
     x.source(7, 0, 40, 9); x.image(); x.source(1, 0, 41, 9); due(x.sounds(0, 0), 1); x.restore(); due(x.sounds(0, 0), 0); x.source(1, 0, 50, 9); due(x.sounds(0, 0), 0); x.off(1, true); x.restore(); x.source(1, 0, 44, 9); due(x.sounds(0, 0), 1);

@@ -13,11 +13,14 @@ public final class RandomRuns {
   private final HumUnheard x = new HumUnheard();
   private final Model m = new Model();
   private final int wildness;
+  /** A town of keen ears and weak sources, in which each one hears some few: best() has much to choose from. */
+  private final boolean keen;
   private String call = "";
 
   private RandomRuns(long seed) {
     random = new Random(seed);
     wildness = new int[] {4, 30, 200, 100000}[(int) (seed % 4)];
+    keen = seed % 8 >= 4;
   }
 
   public static void main(String[] args) {
@@ -50,6 +53,12 @@ public final class RandomRuns {
   }
 
   private void settle() {
+    if (keen) {
+      for (int i = 3 + random.nextInt(10); i > 0; i--) one(8);
+      for (int i = 3 + random.nextInt(7); i > 0; i--) one(10);
+      for (int i = random.nextInt(10); i > 0; i--) one(12);
+      return;
+    }
     for (int i = random.nextInt(13); i > 0; i--) one(8);
     for (int i = random.nextInt(15); i > 0; i--) one(10);
     for (int i = random.nextInt(10); i > 0; i--) one(14);
@@ -178,13 +187,14 @@ public final class RandomRuns {
       }
       case 7: b = in(0, 7); return pair(x.says(a, b), m.says(a, b), "says", a, b);
       case 8: {
-        a = spot(); b = tone(); c = coin() ? in(0, 99) : in(0, 15); d = coin() ? in(0, 9) : 0;
-        boolean reads = coin();
+        a = spot(); b = tone(); c = coin() && !keen ? in(0, 99) : in(0, 9); d = coin() && !keen ? in(0, 9) : 0;
+        boolean reads = coin() && !keen;
         return pair(x.person(a, b, c, d, reads), m.person(a, b, c, d, reads), "person", a, b, c, d, reads ? 1 : 0);
       }
       case 9: a = who(); b = spot(); return pair(x.go(a, b), m.go(a, b), "go", a, b);
       case 10:
-        a = in(1, 7); b = a == 4 ? who() : spot(); c = tone(); d = in(1, 99);
+        a = keen && random.nextInt(8) > 0 ? in(1, 3) : in(1, 7); b = a == 4 ? who() : spot(); c = tone();
+        d = keen ? in(1, 25) : in(1, 99);
         return pair(x.source(a, b, c, d), m.source(a, b, c, d), "source", a, b, c, d);
       case 11: a = source(); b = in(0, 23); c = in(0, 23); return pair(x.hours(a, b, c), m.hours(a, b, c), "hours", a, b, c);
       case 12: a = source(); b = coin() ? in(0, 99) : in(0, 3); return pair(x.cost(a, b), m.cost(a, b), "cost", a, b);
@@ -235,10 +245,10 @@ public final class RandomRuns {
   private long[] seek(int which) {
     int a = hour(), b = later(a), c, d;
     switch (which) {
-      case 40: case 41: c = in(0, (1 << m.sources.size()) - 1); return pair(x.rid(c, a, b), m.rid(c, a, b), "rid", c, a, b);
-      case 42: {
+      case 40: c = in(0, (1 << m.sources.size()) - 1); return pair(x.rid(c, a, b), m.rid(c, a, b), "rid", c, a, b);
+      case 41: case 42: {
         if (m.sources.size() > 9 && random.nextInt(6) > 0) return pair(0, 0, "");
-        c = coin() ? in(0, 999) : in(0, 100);
+        c = coin() ? in(0, 999) : coin() ? in(0, 100) : in(0, 10);
         return pair(x.best(c, a, b), m.best(c, a, b), "best", c, a, b);
       }
       case 43: c = in(0, 30); d = in(0, 31); return pair(x.lots(c, d), m.lots(c, d), "lots", c, d);
