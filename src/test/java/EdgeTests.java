@@ -305,6 +305,10 @@ public final class EdgeTests extends Answers {
     x.source(FAN, 0, 40, 10); x.source(FAN, 0, 41, 10); x.source(FAN, 0, 42, 10);
     due(x.hears(0, 0), 7); due(x.hears(1, 0), 7); due(x.hears(2, 0), 0); due(x.hears(3, 0), 0); due(x.hears(4, 0), 3);
 
+    fresh("above 0: at LEVEL 1 it is heard, if one NEEDS no more");
+    x.person(0, 40, 0, 0, true); x.person(0, 40, 1, 0, true); x.person(0, 40, 2, 0, true); x.source(FAN, 1, 40, 6);
+    due(x.reach(0, 0), 1); due(x.hears(0, 0), 1); due(x.hears(1, 0), 1); due(x.hears(2, 0), 0);
+
     fresh("One HEARS a SOURCE in an HOUR, if it SOUNDS then");
     people(1); x.source(FAN, 0, 40, 9); x.source(EAR, 0, 60, 9); x.source(TOLD, 0, 70, 9); x.hours(0, 5, 5); laws("paper 6"); x.off(1, true);
     due(x.hears(0, 4), 0); due(x.hears(0, 5), 1); due(x.hears(0, 6), 4); x.off(1, false); due(x.hears(0, 4), 2); due(x.hears(0, 239), 6);
@@ -557,6 +561,11 @@ public final class EdgeTests extends Answers {
     due(x.sounds(0, 20), 0); due(x.sounds(0, 21), 1);
     x.force(2); due(x.sounds(0, 15), 0);
 
+    fresh("each PLAN has its own ITEMS, none of one read before it, nor of a text with a FAULT");
+    hums(2); plan("off 0 from 0 to 9"); plan("off 1 from 0 to 9"); due(planFault("off 0 from 0 to 9;x"), 18); plan("on 1 from 0 to 0");
+    x.force(1); due(x.sounds(0, 0), 1); due(x.sounds(1, 0), 0); x.force(2); due(x.sounds(0, 0), 1); due(x.sounds(1, 0), 1);
+    x.force(0); due(x.sounds(0, 0), 0); due(x.sounds(1, 0), 1);
+
     fresh("if there is none, as by hand; if it says on: not");
     hums(2); plan("on 0 from 10 to 20"); x.force(0); x.off(0, true); x.off(1, true);
     due(x.sounds(0, 9), 0); due(x.sounds(0, 10), 1); due(x.sounds(0, 20), 1); due(x.sounds(0, 21), 0); due(x.sounds(1, 15), 0); x.off(0, false);
@@ -578,6 +587,14 @@ public final class EdgeTests extends Answers {
     due(x.element(1, 0), 0);
     due(x.row(0, 3, 61), -7); due(x.element(0, 59), 5); due(x.row(0, 3, 60), 1); due(x.element(0, 59), 0);
     due(x.set(0, 3, 7), 1); due(x.row(0, 0, 3), 1); due(x.element(0, 3), 0); due(x.row(0, 0, 4), 1); due(x.element(0, 3), 0);
+
+    fresh("0 at first, of a ROW that comes where another was");
+    x.row(0, 2, 3); for (int i = 0; i < 3; i++) x.set(0, i, 7);
+    x.row(0, 3, 3); for (int i = 0; i < 3; i++) due(x.element(0, i), 0);
+
+    fresh("no element is there any more, when a SOURCE or NOTHING comes where a ROW was");
+    hums(1); x.row(0, 2, 1); x.set(0, 0, 7); x.show(0, 0); due(x.element(0, 0), 0); due(x.set(0, 0, 1), -2);
+    x.row(0, 2, 1); x.set(0, 0, 7); x.show(0, -1); due(x.element(0, 0), 0); due(x.set(0, 0, 1), -3);
 
     fresh("what is put in keeps its lowest bits");
     long[] v = {127, 128, -128, -129, 255, 256, 32767, 32768, -32769, 65535, MAX, MAX + 1L, MIN - 1L, 0xFFFFFFFFL, Long.MAX_VALUE, Long.MIN_VALUE};
@@ -984,6 +1001,10 @@ public final class EdgeTests extends Answers {
     x.person(27, 40, 0, 0, true); x.source(ROOM, 27, 40, 5); due(x.bed(0, 0, 0), 19); x.source(ROOM, 19, 40, 5); due(x.bed(0, 0, 0), 26);
     x.source(ROOM, 26, 40, 5); due(x.bed(0, 0, 0), 28); x.source(ROOM, 28, 40, 5); due(x.bed(0, 0, 0), 35);
 
+    fresh("then the first: SPOT 0, and the last one");
+    x.person(1, 40, 0, 0, true); x.source(ROOM, 1, 40, 5); due(x.bed(0, 0, 0), 0); x.source(ROOM, 0, 40, 5); due(x.bed(0, 0, 0), 2);
+    x.go(0, 62); x.source(ROOM, 62, 40, 5); x.source(ROOM, 54, 40, 5); x.source(ROOM, 61, 40, 5); due(x.bed(0, 0, 0), 63);
+
     fresh("(each once) in HOURS a to b");
     people(1); x.source(FAN, 0, 40, 5); x.hours(0, 5, 9); x.source(FAN, 1, 50, 5); x.hours(1, 6, 6); x.source(FAN, 8, 60, 5); x.hours(2, 7, 7);
     due(x.bed(0, 0, 4), 0); due(x.bed(0, 0, 5), 1); due(x.bed(0, 5, 6), 8); due(x.bed(0, 5, 7), 2); due(x.bed(0, 10, 28), 0);
@@ -998,6 +1019,13 @@ public final class EdgeTests extends Answers {
     due(x.bed(0, 239, 239), 0); due(x.bed(0, 1, 0), -6); due(x.bed(0, 0, 240), -6); due(x.bed(0, -1, 0), -6); due(x.bed(0, 240, 240), -6);
   }
 
+  private static void ran(int got, int want, int... bodies) {
+    due(got, want);
+    due(x.status(7), bodies.length);
+    for (int i = 0; i < bodies.length; i++) due(x.trace(i), bodies[i]);
+    due(x.trace(bodies.length), -1);
+  }
+
   private static void acts() {
     fresh("ACTS of SOURCES, with x (wrapping)");
     people(1); for (int kind = 1; kind <= 7; kind++) x.source(kind, 0, 90 + kind, 9);
@@ -1005,6 +1033,19 @@ public final class EdgeTests extends Answers {
     due(x.act(2, 1, MAX), (MIN + 2) * 2); due(x.act(1, 1, 1 << 30), MIN + 2 + 92);
     due(x.act(5, 2, MIN), ((MIN + 5) * 2 ^ MIN - 96 + 5) * 2); due(x.act(2, 2, MIN + 92), -((MIN + 92 + 3) * 2 ^ MAX + 2));
     due(x.act(3, 2, MIN), ((MIN + 3) * 2 ^ MIN - 94 + 3) - 3); due(x.act(4, 0, MAX), MAX + 4 ^ 5);
+
+    fresh("the body of the SOURCE's KIND, or of the next KIND above that has one; super: from the KIND above the body's on");
+    people(1);
+    for (int kind = 1; kind <= 7; kind++) x.source(kind, 0, 30 + kind, 9);
+    ran(x.act(0, 0, 5), 15, 20, 10); ran(x.act(0, 1, 5), 30, 11, 20, 10); ran(x.act(0, 2, 5), 30 ^ (5 - 31) * 3, 12, 11, 20, 10, 20, 10);
+    ran(x.act(1, 0, 5), 6, 10); ran(x.act(1, 1, 5), 44, 30, 11, 10); ran(x.act(1, 2, 5), 44 ^ 5 - 32 + 1, 12, 30, 11, 10, 10);
+    ran(x.act(2, 0, 5), 7, 10); ran(x.act(2, 1, 5), 16, 40, 11, 10); ran(x.act(2, 2, 5), -(16 ^ 5 - 33 + 2), 41, 12, 40, 11, 10, 10);
+    ran(x.act(3, 0, 5), 8, 10); ran(x.act(3, 1, 5), 16, 11, 10); ran(x.act(3, 2, 5), (16 ^ 5 - 34 + 3) - 3, 50, 12, 11, 10, 10);
+    ran(x.act(4, 0, 5), 9 ^ 5, 60, 10); ran(x.act(4, 1, 5), (9 ^ 5) * 2, 11, 60, 10);
+    ran(x.act(4, 2, 5), (9 ^ 5) * 2 ^ (5 - 35 + 4 ^ 5), 12, 11, 60, 10, 60, 10);
+    ran(x.act(5, 0, 5), 10, 10); ran(x.act(5, 1, 5), 20, 11, 10); ran(x.act(5, 2, 5), (20 ^ 5 - 36 + 5) * 2, 70, 12, 11, 10, 10);
+    ran(x.act(6, 0, 5), 30, 80, 20, 10); ran(x.act(6, 1, 5), 69, 81, 11, 80, 20, 10);
+    ran(x.act(6, 2, 5), 69 ^ (5 - 37 - 1 + 6) * 3, 12, 81, 11, 80, 20, 10, 80, 20, 10);
 
     fresh("An ACT. 0, and no TRACE then: no such SOURCE, act");
     due(x.act(0, 0, 9), 0); due(x.status(7), 0); hums(1);
@@ -1054,6 +1095,23 @@ public final class EdgeTests extends Answers {
     hums(1); x.image(); x.row(0, 1, 2); x.set(0, 1, 5); x.pass(0); due(lawFault("los"), 3); x.act(0, 0, 0); x.restore(); due(x.holds(0), 101);
     due(x.element(0, 1), 5); due(x.status(16), 2); due(x.fault(), 3); due(x.trace(0), 10); due(x.status(7), 1);
     x.pass(5); due(x.restore(), 0); due(x.restore(), 0);
+
+    fresh("what is made anew after restore() has nothing of what was there");
+    x.image(); x.source(MIXED, 0, 40, 9); x.source(FAN, 0, 41, 9); x.hours(0, 3, 4); x.cost(0, 5); x.off(0, true); plan("off 0 from 0 to 9");
+    x.restore();
+    x.source(MIXED, 0, 40, 9); due(x.hours(0, 0, 23), 23); due(x.cost(0, 0), 0); due(x.off(0, false), 0); x.source(FAN, 0, 60, 9);
+    due(x.sounds(0, 0), 0);
+    due(plan("on 0 from 0 to 9"), 0); x.force(0); due(x.sounds(1, 0), 1); x.off(0, true); due(x.sounds(0, 0), 0);
+
+    fresh("what beats is as THE IMAGE has it");
+    x.source(MIXED, 0, 40, 9); x.image(); x.source(FAN, 0, 41, 9); due(x.sounds(0, 0), 1); x.restore(); x.source(FAN, 0, 60, 9);
+    due(x.sounds(0, 0), 0);
+
+    fresh("PRESSES, MATCHES and LETTERS behind THE IMAGE are none any more");
+    people(1); hums(1); laws("wrong 2"); x.press(0, true); x.letter(0, 0); x.image(); x.press(0, false); x.match(0, 99); x.letter(0, 0);
+    due(x.odds(0, 0), 16); x.restore();
+    due(x.odds(0, 0), 4); due(x.told(0), 1); x.match(0, 40); due(x.odds(0, 0), 16); due(x.letter(0, 0), 2); due(x.press(0, true), 2);
+    due(x.odds(0, 0), 64);
 
     fresh("what changes behind image() isn't in it");
     people(1); hums(1); x.image(); x.go(0, 63); x.hours(0, 1, 2); x.cost(0, 9); x.off(0, true); x.size(0, 8); x.weather(0, 1); laws("loss 9");
